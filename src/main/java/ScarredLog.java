@@ -382,7 +382,7 @@ public final class ScarredLog {
     private static final class SlotState {
         private static final int EMPTY = 0;
         private static final int DAMAGED_UNKNOWN = -1000000;
-        private static final int UNKNOWN_BALLOT = Integer.MAX_VALUE;
+        private static final int UNKNOWN_BALLOT = 1000000;
         private static final int BALLOT_UNIT = 64;
 
         static int wholeWith(int ballot, int command) {

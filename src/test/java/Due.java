@@ -58,7 +58,10 @@ final class Due {
         yes("restart(" + n + ")", x.restart(n));
     }
 
-    /** All that can be seen of an object, as one text: to see that a call changed nothing. */
+    /**
+     * All that can be seen of an object, as one text: to see that a call changed nothing. It takes more
+     * calls than the document's 512, which is fine here only because this program does not count calls.
+     */
     static String sight(ScarredLog x) {
         StringBuilder b = new StringBuilder();
         for (int n = 0; n < 5; n++) {

@@ -5,7 +5,23 @@ public final class Promise03LeadTest {
         refusals();
         goesDown();
         inPlaceOfTheOldTerm();
+        greatestBallot();
         Due.end();
+    }
+
+    /** No 512 calls come that far; the edge is looked at all the same, as this program does not count calls. */
+    private static void greatestBallot() {
+        ScarredLog x = new ScarredLog(3);
+        int last = 0;
+        for (int i = 0; i < 7500; i++) {
+            last = x.lead(0);
+        }
+        Due.is("lead(0)", last, 60000);
+        Due.is("lead(0): 60008", x.lead(0), 0);
+        Due.is("look(0, 3): the term that it has stays", x.look(0, 3), 60000);
+        Due.is("promise(0, 1)", x.promise(0, 1), 1);
+        Due.is("lead(1): 60001", x.lead(1), 0);
+        Due.sector(x, 1, 1, 0, 0, 60000 / 256, 60000 % 256);
     }
 
     private static void ballots() {

@@ -23,11 +23,10 @@ public final class Promise10RestartTest {
     private static void promises() {
         ScarredLog x = new ScarredLog(3);
         x.lead(1);
-        String before = Due.sight(x);
         Due.scar(x, 1, 1);
         Due.is("look(1, 2)", x.look(1, 2), 9);
         Due.is("look(1, 1)", x.look(1, 1), 0);
-        Due.is("octet(1, 8): nothing is written", x.octet(1, 15), 0);
+        Due.is("octet(1, 15): nothing is written", x.octet(1, 15), 0);
         Due.is("lead(1)", x.lead(1), 17);
         Due.scar(x, 1, 0);
         Due.is("look(1, 2)", x.look(1, 2), 17);
@@ -37,7 +36,6 @@ public final class Promise10RestartTest {
         Due.is("look(1, 0)", x.look(1, 0), 1);
         Due.scar(x, 1);
         Due.is("look(1, 1): still", x.look(1, 1), 1);
-        Due.yes("something was seen", before.length() > 0);
         // The greater one, when sector 1 is the older: a torn sector 0 that is right by a flip before.
         ScarredLog y = new ScarredLog(3);
         y.lead(0);

@@ -55,6 +55,19 @@ public final class Promise16PlanTest {
         Due.is("plan(2, 1)", y.plan(2, 1), 2);
         y.promise(2, 0);
         Due.is("plan(2, 1)", y.plan(2, 1), 2);
+        // The greatest, not the last one told, nor that of the highest node.
+        ScarredLog w = Due.led(5, 1, 1, 3, 4);
+        w.ask(0, 1);
+        w.ask(0, 2);
+        w.route(1, 1);
+        Due.votes(w, 1, 1, 1);
+        w.lead(0);
+        Due.begin(w, 0, 0, 3, 4);
+        Due.is("route(2, 0)", w.route(2, 0), 1);
+        Due.votes(w, 0, 1, 0);
+        w.lead(2);
+        Due.begin(w, 2, 0, 2, 1);
+        Due.is("plan(2, 1)", w.plan(2, 1), 2);
         // NOTHING with a ballot is a plan of its own.
         ScarredLog z = Due.led(3, 0, 0, 1);
         Due.votes(z, 0, 1, 1);
