@@ -22,6 +22,22 @@ final class Due {
         is(call, got ? 1 : 0, 0);
     }
 
+    /** A test of its own for one sentence of the document: names the sentence if an answer in it is not as due. */
+    static void sentence(String sentence, Runnable test) {
+        int wrongBefore = wrong;
+        int lookedBefore = looked;
+        try {
+            test.run();
+        } catch (RuntimeException e) {
+            wrong++;
+            e.printStackTrace(System.out);
+        }
+        yes("something was looked at for: " + sentence, looked > lookedBefore);
+        if (wrong != wrongBefore) {
+            System.out.println("BROKEN: " + sentence);
+        }
+    }
+
     static void end() {
         System.out.println(looked + " answers, " + wrong + " not as due");
         if (wrong != 0 || looked == 0) {
@@ -56,6 +72,32 @@ final class Due {
             yes("wipe(" + n + ", " + sector + ")", x.wipe(n, sector));
         }
         yes("restart(" + n + ")", x.restart(n));
+    }
+
+    /** Makes a node mute. */
+    static void mute(ScarredLog x, int n) {
+        scar(x, n, 0, 1);
+        is("look(" + n + ", 1)", x.look(n, 1), 1);
+    }
+
+    /** Numbers that are no node: too small, too large, and such as wrap round to one when they are multiplied. */
+    static int[] noNodes(int size) {
+        return new int[] {-1, size, size + 1, -size, 8, 32, 256, 1 << 28, 1 << 29, 1 << 30, Integer.MIN_VALUE,
+            Integer.MAX_VALUE};
+    }
+
+    static int[] noSlots() {
+        return new int[] {0, 9, -1, -8, 10, 17, 257, 1 << 27, (1 << 28) + 1, 1 << 30, (1 << 31) + 1,
+            Integer.MIN_VALUE, Integer.MAX_VALUE};
+    }
+
+    static int[] noKeys() {
+        return new int[] {-1, 4, -4, 5, 256, 1 << 30, Integer.MIN_VALUE, Integer.MAX_VALUE};
+    }
+
+    static int[] noSectors() {
+        return new int[] {-1, 18, 19, -18, 256, 1 << 28, 1 << 29, (1 << 29) + 1, 1 << 30, Integer.MIN_VALUE,
+            Integer.MAX_VALUE};
     }
 
     /**
